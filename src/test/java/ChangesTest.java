@@ -26,6 +26,7 @@ final class ChangesTest {
         Tests.run("2: deal: everything begins anew", ChangesTest::dealBeginsAnew);
         Tests.run("2: deal: wrong numbers", ChangesTest::dealWrong);
         Tests.run("3: move: points", ChangesTest::movePoints);
+        Tests.run("3: move: black and red", ChangesTest::moveColours);
         Tests.run("3: move: a card changes its pile", ChangesTest::moveMoves);
         Tests.run("3: move: every pair of piles", ChangesTest::movePairs);
         Tests.run("3: move: frozen houses", ChangesTest::moveFrozen);
@@ -98,6 +99,13 @@ final class ChangesTest {
         Tests.due("undo()", game.undo(), 4);
         Tests.due("freezes of the side before the deal", game.pile(8, 2), 3);
         Tests.holds("draws before the deal", game.count(2) > 0 && game.restore(1) == game.count(2));
+        for (int house = 0; house < 8; house++) {
+            game = new TwinPatience();
+            game.freeze(house);
+            game.deal(1);
+            Tests.due("no house is frozen", game.count(6), 0);
+            Tests.due("the freezes are back", game.side(0, 1), 2);
+        }
         game = Games.drawnOut();
         game.deal(3);
         Tests.due("count(1)", game.count(1), 0);
@@ -124,6 +132,17 @@ final class ChangesTest {
             Tests.due(call, game.move(row[2], row[3]), row[4]);
             Tests.due(call + ": points", game.side(side, 0), points + row[4]);
             Tests.due(call + ": the other's points", game.side(1 - side, 0), others);
+        }
+    }
+
+    /** The last black cards and the first red ones of both packs. */
+    private static void moveColours() {
+        int[][] rows = {{9, 8, 7, 26}, {13, 11, 9, 78}, {9, 13, 9, 89}, {66, 10, 12, 102}};
+        for (int[] row : rows) {
+            TwinPatience game = Games.played(row[0], 0);
+            String call = "deal " + row[0] + ", move(" + row[1] + ", " + row[2] + ")";
+            Tests.due(call, game.move(row[1], row[2]), 0);
+            Tests.due(call + ": the card", game.pile(row[2], 1), row[3]);
         }
     }
 

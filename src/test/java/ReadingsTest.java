@@ -100,10 +100,22 @@ final class ReadingsTest {
         }
         Tests.due("side(2, 0)", game.side(2, 0), -2);
         Tests.due("side(1, 4)", game.side(1, 4), -2);
-        game = Games.played(0, 0);
-        game.move(8, 10);
-        game.move(9, 8);
-        Tests.due("a side without a house of two cards", game.side(0, 3), 1);
+        for (int number = 0; number < 40; number++) {
+            longestHouses(Games.played(number, 6 * number));
+        }
+        TwinPatience bare = Games.played(143, 325);
+        Tests.due("a side without a card in its houses", bare.side(0, 3), 0);
+        Tests.due("a side without a card in its houses", bare.side(1, 3), 0);
+    }
+
+    private static void longestHouses(TwinPatience game) {
+        for (int side = 0; side <= 1; side++) {
+            int longest = 0;
+            for (int house = 6 + 4 * side; house < 10 + 4 * side; house++) {
+                longest = Math.max(longest, game.pile(house, 0));
+            }
+            Tests.due("side(" + side + ", 3)", game.side(side, 3), longest);
+        }
     }
 
     private static void count() {
