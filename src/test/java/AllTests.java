@@ -11,6 +11,8 @@ public final class AllTests {
         WhatIfTest.run();
         TextsTest.run();
         UndoTest.run();
+        ChangeBoundsTest.run();
+        MoveBoundsTest.run();
         RandomRunsTest.run();
         if (!Tests.close()) {
             System.exit(1);

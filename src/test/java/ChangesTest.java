@@ -289,9 +289,7 @@ final class ChangesTest {
     }
 
     private static void drawWithoutCard() {
-        TwinPatience game = new TwinPatience();
-        game.deal(Games.WITHOUT_A_CARD);
-        Games.follow(game, Games.TO_AN_EMPTY_HAND);
+        TwinPatience game = Games.without(0);
         Tests.due("side to play", game.count(0), 0);
         Tests.due("hand", game.pile(4, 0), 0);
         Tests.due("waste", game.pile(2, 0), 0);
@@ -459,9 +457,7 @@ final class ChangesTest {
     }
 
     private static void playAllWithoutCard() {
-        TwinPatience game = new TwinPatience();
-        game.deal(Games.WITHOUT_A_CARD);
-        Games.follow(game, Games.TO_AN_EMPTY_HAND);
+        TwinPatience game = Games.without(0);
         Games.write(game, "f1,d,d");
         Tests.due("playAll()", game.playAll(), 3);
         Tests.due("count(0)", game.count(0), 0);

@@ -3,18 +3,29 @@ final class Games {
     /** Numbers that no argument may be, whatever its limits. */
     static final int[] NEVER = {-1, -2, -6, Integer.MIN_VALUE, 105, 1000, Integer.MAX_VALUE};
 
-    /** A game in which the side 0, in its last step, draws though its hand and waste are empty. */
-    static final int WITHOUT_A_CARD = 0;
-    static final String TO_AN_EMPTY_HAND =
-            "12>21,8>10,d,1>8,8>10,1>8,1>12,1>21,1>8,12>8,1>12,d,2>16,d,d,d,3>20,d,d,d,2>10,7>10,2>7,d,d,2>13,2>3,d,d,"
-            + "6>3,2>6,d,1>2,d,d,d,d,d,12>3,2>12,8>3,9>8,2>9,d,d,d,d,2>19,d,d,2>11,12>3,2>12,d,d,2>11,9>11,2>9,2>12,d,"
-            + "3>14,1>2,d,d,d,8>3,13>3,13>11,2>13,10>3,d,3>10,3>11,3>8,3>20,8>20,11>20,10>20,d,12>3,7>3,2>7,d,d,11>3,"
-            + "2>11,10>3,d,3>10,d,2>12,d,3>11,d,2>14,d,d,d,3>12,13>12,3>13,d,d,3>6,d,d,d,2>3,2>3,6>3,d,3>6,1>2,d,d,"
-            + "3>9,d,2>9,2>9,d,3>13,d,13>3,d,3>13,3>6,1>2,d,d,d,2>3,12>3,d,3>12,d,d,3>7,1>7,1>20,1>8,d,11>3,8>3,d,3>8,"
-            + "3>11,3>10,d,2>15,2>10,2>20,10>3,d,3>10,3>21,10>21,d,2>11,d,3>8,d,7>3,d,3>7,d,d,3>7,d,d,d,2>12,6>3,13>3,"
-            + "13>12,d,3>13,13>12,3>6,3>21,6>21,12>21,d,2>21,8>3,d,3>13,3>14,13>8,d,2>13,13>12,d,3>13,d,2>14,7>3,d,3>7,"
-            + "3>9,d,2>13,9>3,7>3,d,3>13,3>9,3>7,d,2>15,d,3>6,d,2>15,6>3,d,3>6,3>14,6>14,d,2>15,d,d,d,d,d,3>18,d,2>6,d,"
-            + "3>18,d,2>3,d,d,d,3>14,d,d,d,d,3>13,d,13>3,d,3>13,d,2>3";
+    /** Deal 1: each ends with the move by which the side has nothing in its hand and waste any more, but a stock. */
+    private static final String SIDE_0_WITHOUT =
+            "10>13,d,d,2>10,d,d,2>9,d,d,2>21,d,d,2>7,d,d,2>13,d,d,2>7,8>10,d,d,2>8,d,d,2>15,11>10,d,d,2>7,12>7,8>3,d,d,"
+            + "2>8,d,d,2>9,6>3,d,d,2>13,d,d,2>6,d,d,2>11,d,3>13,d,2>12,d,d,2>7,6>3,8>13,d,d,2>6,d,d,2>8,d,d,2>12,6>8,d,d,"
+            + "2>6,d,d,d,d,9>3,2>3,d,d,2>12,d,d,2>15,2>3,d,d,2>3,d,d,6>3,2>6,d,d,11>12,2>11,d,d,2>12,d,d,12>3,9>3,2>3,d,d,"
+            + "2>3,d,d,2>11,d,d,d,d,2>21,d,d,d,d,2>11,9>11,2>9,8>11,8>3,2>8";
+    private static final String SIDE_1_WITHOUT =
+            "11>8,10>13,d,d,d,3>11,d,d,3>10,d,2>19,d,9>2,3>9,d,d,3>6,11>6,d,d,3>6,d,d,3>11,d,d,d,2>21,10>21,d,3>10,d,d,"
+            + "3>7,d,d,d,d,3>11,10>2,3>10,13>2,d,d,3>19,9>2,8>9,8>2,3>2,d,d,3>8,d,d,8>2,3>8,d,d,3>20,d,d,3>13,12>2,10>2,d,"
+            + "d,3>12,d,d,d,d,3>10,3>10,d,d,d,d,10>2,3>10,12>10,d,d,3>12,11>2,3>2,d,d,d,d,3>6,d,d,3>16,9>16,3>9,8>16,12>6,"
+            + "d,d,3>12,d,d,3>8,d,d,3>16,d,d,3>8,d,d,3>13,d,d,3>18,d,d,3>7,d,d,3>13,d,d,3>21,d,d,3>7";
+    /** Deal 3: it leaves the side 0, which is to play, one card of its own, on its stock. */
+    private static final String LAST_OF_STOCK =
+            "0>18,d,d,0>3,6>18,2>6,13>6,0>13,8>13,7>13,0>7,d,d,2>8,13>3,8>3,d,d,2>8,d,d,13>3,2>13,9>8,d,d,2>9,11>3,d,d,"
+            + "2>13,d,d,2>11,d,d,2>7,d,d,2>9,d,d,2>13,d,d,2>3,10>7,d,d,2>10,d,d,2>16,d,d,d,d,2>7,0>3,d,d,9>3,12>9,2>9,d,d,"
+            + "2>12,10>12,2>10,d,3>17,6>17,d,0>6,d,d,2>19,6>19,6>13,2>6,d,d,2>17,12>3,0>3,d,d,d,d,d,d,2>15,d,3>14,9>19,d,"
+            + "2>15,d,3>10,d,d,d,2>8,d,d,2>7,11>7,2>11,2>10,d,d,2>18,2>18,6>3,0>6,0>6,0>16,13>16,13>19,11>19,d,d,2>11,d,d,"
+            + "2>10,11>10,d,d,2>11,d,d,d,d,2>7,d,d,2>8,0>8,12>8,2>12,13>18,d,d,7>3,6>8,6>3,13>6,13>7,2>13,6>7,0>6,d,d,9>3,"
+            + "d,d,d,3>8,9>8,d";
+    /** Deal 1: it ends with the side 0 to play, and a house, the pile 7, that reaches from a king to an ace. */
+    private static final String FULL_HOUSE =
+            "10>12,d,d,d,13>2,d,11>8,9>11,d,d,7>13,d,11>2,d,6>7,13>6,d,3>7,6>7,d,d,3>7,d,2>7,d,d,d,d,12>3,d,12>9,d,2>7,"
+            + "9>7,d,3>11,3>7,d,0>12,0>3,0>12,0>7,d,d,d,1>10,d,2>7,d,d,d,10>2,11>2,d,d,3>7,3>2,3>7,d,0>7";
 
     private Games() {
     }
@@ -38,8 +49,40 @@ final class Games {
         return game;
     }
 
+    /** The side is to play; its hand and its waste are empty, its stock is not; it costs some 130 calls. */
+    static TwinPatience without(int side) {
+        TwinPatience game = new TwinPatience();
+        follow(game, side == 0 ? SIDE_0_WITHOUT : SIDE_1_WITHOUT);
+        return game;
+    }
+
+    /** The side 0 is to play, its last card is on its stock; it costs some 160 calls. */
+    static TwinPatience lastOfStock() {
+        TwinPatience game = new TwinPatience();
+        game.deal(3);
+        follow(game, LAST_OF_STOCK);
+        return game;
+    }
+
+    /** The side is to play, its last card is on its waste. */
+    static TwinPatience lastOfWaste(int side) {
+        return side == 0 ? played(163, 341) : played(676, 348);
+    }
+
+    /** Over, because the side has no cards any more. */
+    static TwinPatience emptiedBy(int side) {
+        return side == 0 ? played(163, 342) : played(676, 349);
+    }
+
+    /** The pile 7 has thirteen cards; it costs some 60 calls. */
+    static TwinPatience fullHouse() {
+        TwinPatience game = new TwinPatience();
+        follow(game, FULL_HOUSE);
+        return game;
+    }
+
     /** Does the steps of a text by move() and draw(). */
-    static void follow(TwinPatience game, String text) {
+    private static void follow(TwinPatience game, String text) {
         for (String step : text.split(",")) {
             if (step.equals("d")) {
                 game.draw();
