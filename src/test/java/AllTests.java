@@ -13,6 +13,10 @@ public final class AllTests {
         UndoTest.run();
         ChangeBoundsTest.run();
         MoveBoundsTest.run();
+        ReadingBoundsTest.run();
+        WhatIfBoundsTest.run();
+        TextBoundsTest.run();
+        HistoryBoundsTest.run();
         RandomRunsTest.run();
         if (!Tests.close()) {
             System.exit(1);

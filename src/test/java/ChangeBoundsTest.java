@@ -307,7 +307,7 @@ final class ChangeBoundsTest {
 
     private static void drawLastWithoutCard() {
         TwinPatience game = Games.without(1);
-        while (game.count(2) < 199) {
+        for (int draws = game.count(2); draws < 199; draws++) {
             game.draw();
         }
         Tests.due("count(1)", game.count(1), 0);

@@ -24,26 +24,15 @@ final class ChangesTest {
         Tests.run("1: a new object is dealt by 1", ChangesTest::newObject);
         Tests.run("2: deal: shuffled by the number", ChangesTest::dealShuffles);
         Tests.run("2: deal: everything begins anew", ChangesTest::dealBeginsAnew);
-        Tests.run("2: deal: wrong numbers", ChangesTest::dealWrong);
         Tests.run("3: move: points", ChangesTest::movePoints);
         Tests.run("3: move: black and red", ChangesTest::moveColours);
         Tests.run("3: move: a card changes its pile", ChangesTest::moveMoves);
         Tests.run("3: move: every pair of piles", ChangesTest::movePairs);
-        Tests.run("3: move: frozen houses", ChangesTest::moveFrozen);
-        Tests.run("3: move: the last card of a side", ChangesTest::moveLastCard);
-        Tests.run("3: move: errors", ChangesTest::moveErrors);
         Tests.run("4: draw: hands and turns", ChangesTest::drawHands);
         Tests.run("4: draw: hands are turned over, the 200th draw is the last", ChangesTest::drawTurnsOver);
-        Tests.run("4: draw: without a card", ChangesTest::drawWithoutCard);
         Tests.run("5: freeze: three draws long", ChangesTest::freezeThaws);
-        Tests.run("5: freeze: errors", ChangesTest::freezeErrors);
         Tests.run("6: play: by rule", ChangesTest::playByRule);
-        Tests.run("6: play: to the end", ChangesTest::playToTheEnd);
-        Tests.run("6: play: wrong steps", ChangesTest::playWrong);
         Tests.run("7: playAll: steps of all kinds", ChangesTest::playAllSteps);
-        Tests.run("7: playAll: up to the first error", ChangesTest::playAllStops);
-        Tests.run("7: playAll: a draw without a card is done", ChangesTest::playAllWithoutCard);
-        Tests.run("7: playAll: a pad with a fault", ChangesTest::playAllFault);
     }
 
     private static void newObject() {
@@ -111,15 +100,6 @@ final class ChangesTest {
         Tests.due("count(1)", game.count(1), 0);
         Tests.due("count(2)", game.count(2), 0);
         Tests.holds("draw()", game.draw() >= 0);
-    }
-
-    private static void dealWrong() {
-        TwinPatience game = Games.played(2, 30);
-        String before = Games.read(game);
-        Tests.due("deal(-1)", game.deal(-1), -2);
-        Tests.due("deal(least)", game.deal(Integer.MIN_VALUE), -2);
-        Tests.due("count(8)", game.count(8), 2);
-        Games.same("nothing changed", game, before);
     }
 
     private static void movePoints() {
@@ -191,65 +171,6 @@ final class ChangesTest {
         }
     }
 
-    private static void moveFrozen() {
-        TwinPatience from = new TwinPatience();
-        from.freeze(4);
-        Tests.due("move(10, 12) with 10 frozen", from.move(10, 12), -5);
-        TwinPatience to = new TwinPatience();
-        to.freeze(6);
-        Tests.due("move(10, 12) with 12 frozen", to.move(10, 12), -5);
-        Tests.due("count(5)", to.count(5), 2);
-        TwinPatience empty = new TwinPatience();
-        empty.move(10, 12);
-        empty.freeze(4);
-        Tests.due("move(0, 10) with 10 frozen and empty", empty.move(0, 10), -5);
-        empty.draw();
-        empty.draw();
-        Tests.due("after two draws", empty.move(0, 10), -5);
-        empty.draw();
-        Tests.due("after three draws", empty.move(1, 10), 2);
-    }
-
-    private static void moveLastCard() {
-        int[][] lastMoves = {{3, 6, 10}, {3, 17, 11}, {3, 2, 11}};
-        for (int[] last : lastMoves) {
-            TwinPatience game = Games.played(676, 348);
-            Tests.due("side(1, 2)", game.side(1, 2), 1);
-            int points = game.side(1, 0);
-            int draws = game.count(2);
-            Tests.due("move(3, " + last[1] + ")", game.move(3, last[1]), last[2]);
-            Tests.due("side(1, 0)", game.side(1, 0), points + last[2]);
-            Tests.due("side(1, 2)", game.side(1, 2), 0);
-            Tests.due("count(1)", game.count(1), 1);
-            Tests.due("count(0)", game.count(0), 1);
-            Tests.due("count(5)", game.count(5), 0);
-            Tests.due("draw()", game.draw(), -5);
-            Tests.due("count(2)", game.count(2), draws);
-            Tests.due("undo()", game.undo(), 5);
-            Tests.due("count(1)", game.count(1), 0);
-            Tests.due("side(1, 0)", game.side(1, 0), points);
-        }
-    }
-
-    private static void moveErrors() {
-        TwinPatience game = new TwinPatience();
-        String before = Games.read(game);
-        for (int never : Games.NEVER) {
-            Tests.due("move(" + never + ", 12)", game.move(never, 12), -1);
-            Tests.due("move(10, " + never + ")", game.move(10, never), -1);
-        }
-        Tests.due("move(22, 12)", game.move(22, 12), -1);
-        Tests.due("move(10, 22)", game.move(10, 22), -1);
-        Tests.due("move(12, 10)", game.move(12, 10), -5);
-        Tests.due("move(10, 10)", game.move(10, 10), -5);
-        Tests.due("count(8)", game.count(8), 0);
-        Games.same("nothing changed", game, before);
-        TwinPatience over = Games.drawnOut();
-        Tests.due("no such pile comes before the end of the game", over.move(22, 0), -1);
-        Tests.due("no such pile comes before the end of the game", over.move(0, -1), -1);
-        Tests.due("move(10, 12) after the end", over.move(10, 12), -5);
-    }
-
     private static void drawHands() {
         TwinPatience game = new TwinPatience();
         int[] drawn = {42, 88, 46, 92, 13, 55, 22, 76, 43, 74};
@@ -288,24 +209,6 @@ final class ChangesTest {
         Tests.due("the 200th draw again", game.draw(), drawn[199]);
     }
 
-    private static void drawWithoutCard() {
-        TwinPatience game = Games.without(0);
-        Tests.due("side to play", game.count(0), 0);
-        Tests.due("hand", game.pile(4, 0), 0);
-        Tests.due("waste", game.pile(2, 0), 0);
-        Tests.due("stock", game.pile(0, 0), 13);
-        int draws = game.count(2);
-        Tests.due("freeze(1)", game.freeze(1), 1);
-        Tests.due("draw()", game.draw(), -6);
-        Tests.due("the turn ends", game.count(0), 1);
-        Tests.due("it is a draw", game.count(2), draws + 1);
-        Tests.due("it is one for the freeze", game.pile(7, 2), 2);
-        Tests.due("count(8)", game.count(8), 6);
-        Tests.due("waste", game.pile(2, 0), 0);
-        Tests.due("undo()", game.undo(), 5);
-        Tests.due("side to play", game.count(0), 0);
-    }
-
     private static void freezeThaws() {
         TwinPatience game = new TwinPatience();
         Tests.due("freeze(0)", game.freeze(0), 1);
@@ -324,28 +227,6 @@ final class ChangesTest {
         Tests.due("pile(6, 2)", game.pile(6, 2), 3);
         Tests.due("move(10, 12)", game.move(10, 12), 0);
         Tests.due("moves do not count", game.pile(6, 2), 3);
-    }
-
-    private static void freezeErrors() {
-        TwinPatience game = new TwinPatience();
-        for (int never : Games.NEVER) {
-            Tests.due("freeze(" + never + ")", game.freeze(never), -1);
-        }
-        Tests.due("freeze(8)", game.freeze(8), -1);
-        Tests.due("count(8)", game.count(8), 0);
-        Tests.due("freeze(3)", game.freeze(3), 1);
-        String before = Games.read(game);
-        Tests.due("freeze(3) again", game.freeze(3), -5);
-        Games.same("nothing changed", game, before);
-        Tests.due("count(8)", game.count(8), 1);
-        Tests.due("freeze(4)", game.freeze(4), 0);
-        Tests.due("none left", game.freeze(5), -5);
-        Tests.due("side(0, 1)", game.side(0, 1), 0);
-        Tests.due("no such house comes before none left", game.freeze(8), -1);
-        TwinPatience over = Games.drawnOut();
-        Tests.due("freeze(0) after the end", over.freeze(0), -5);
-        Tests.due("freeze(8) after the end", over.freeze(8), -1);
-        Tests.due("side(0, 1)", over.side(0, 1), 2);
     }
 
     private static void playByRule() {
@@ -376,34 +257,6 @@ final class ChangesTest {
         Tests.due("count(1)", last.count(1), 0);
     }
 
-    private static void playToTheEnd() {
-        TwinPatience game = Games.played(7, 300);
-        Tests.due("play(60)", game.play(60), 27);
-        Tests.due("count(1)", game.count(1), 1);
-        Tests.due("count(2)", game.count(2), 200);
-        game.undo();
-        Tests.due("play(27)", game.play(27), 27);
-        Tests.due("play(1)", game.play(1), 0);
-        Tests.due("count(8): it was a change", game.count(8), 6);
-        TwinPatience emptied = Games.played(676, 300);
-        Tests.due("play(60)", emptied.play(60), 49);
-        Tests.due("count(1)", emptied.count(1), 1);
-        Tests.due("count(2)", emptied.count(2), 191);
-        Tests.due("side(1, 2)", emptied.side(1, 2), 0);
-    }
-
-    private static void playWrong() {
-        TwinPatience game = new TwinPatience();
-        String before = Games.read(game);
-        for (int never : Games.NEVER) {
-            Tests.due("play(" + never + ")", game.play(never), -2);
-        }
-        Tests.due("play(0)", game.play(0), -2);
-        Tests.due("play(61)", game.play(61), -2);
-        Tests.due("count(8)", game.count(8), 0);
-        Games.same("nothing changed", game, before);
-    }
-
     private static void playAllSteps() {
         TwinPatience game = new TwinPatience();
         Games.write(game, "10>12,f0,d,f7,d,12>10,d");
@@ -426,55 +279,5 @@ final class ChangesTest {
         Tests.due("count(7)", game.count(7), 59);
         Tests.due("playAll()", game.playAll(), 30);
         Tests.due("count(2)", game.count(2), 30);
-    }
-
-    private static void playAllStops() {
-        TwinPatience game = new TwinPatience();
-        Games.write(game, "d,d,0>1,d");
-        Tests.due("playAll()", game.playAll(), 2);
-        Tests.due("count(2)", game.count(2), 2);
-        Tests.due("count(7)", game.count(7), 0);
-        Games.write(game, "f3,f3,d");
-        Tests.due("playAll()", game.playAll(), 1);
-        Tests.due("pile(9, 2)", game.pile(9, 2), 3);
-        Games.write(game, "12>10");
-        String before = Games.read(Games.played(1, 0));
-        Tests.due("playAll()", game.playAll(), 0);
-        Tests.due("count(7)", game.count(7), 0);
-        Tests.due("count(8): also if none is done", game.count(8), 3);
-        game.undo();
-        game.undo();
-        game.undo();
-        Games.same("all undone", game, before);
-        TwinPatience over = Games.drawnOut();
-        over.put('d');
-        Tests.due("playAll() after the end", over.playAll(), 0);
-        over.undo();
-        over.undo();
-        Games.write(over, "d,d,d");
-        Tests.due("playAll() over the end", over.playAll(), 1);
-        Tests.due("count(2)", over.count(2), 200);
-    }
-
-    private static void playAllWithoutCard() {
-        TwinPatience game = Games.without(0);
-        Games.write(game, "f1,d,d");
-        Tests.due("playAll()", game.playAll(), 3);
-        Tests.due("count(0)", game.count(0), 0);
-    }
-
-    private static void playAllFault() {
-        TwinPatience game = new TwinPatience();
-        String before = Games.read(game);
-        Tests.due("playAll() with an empty pad", game.playAll(), -3);
-        Games.same("nothing changed", game, before);
-        Games.write(game, "d,d,");
-        before = Games.read(game);
-        Tests.due("playAll()", game.playAll(), -3);
-        Tests.due("the pad stays", game.count(7), 4);
-        Tests.due("count(8)", game.count(8), 0);
-        Games.same("nothing changed", game, before);
-        game.put('d');
-        Tests.due("playAll()", game.playAll(), 3);
     }
 }

@@ -1,8 +1,5 @@
 /** Positions that the tests begin from, and what can be read of one. */
 final class Games {
-    /** Numbers that no argument may be, whatever its limits. */
-    static final int[] NEVER = {-1, -2, -6, Integer.MIN_VALUE, 105, 1000, Integer.MAX_VALUE};
-
     /** Deal 1: each ends with the move by which the side has nothing in its hand and waste any more, but a stock. */
     private static final String SIDE_0_WITHOUT =
             "10>13,d,d,2>10,d,d,2>9,d,d,2>21,d,d,2>7,d,d,2>13,d,d,2>7,8>10,d,d,2>8,d,d,2>15,11>10,d,d,2>7,12>7,8>3,d,d,"

@@ -38,6 +38,7 @@ final class MoveBoundsTest {
         Tests.run("3: an empty house gives nothing", MoveBoundsTest::emptyHouseGives);
         Tests.run("3: a frozen house gives nothing", MoveBoundsTest::frozenHouseGives);
         Tests.run("3: a house that the other side froze gives nothing", MoveBoundsTest::frozenByTheOther);
+        Tests.run("3: a house gives again after three draws, not after two", MoveBoundsTest::thawedHouseGives);
     }
 
     private static void runAcesPiles() {
@@ -61,6 +62,7 @@ final class MoveBoundsTest {
         Tests.run("3: a house from a king to an ace takes nothing", MoveBoundsTest::fullHouseTakes);
         Tests.run("3: a frozen house takes nothing", MoveBoundsTest::frozenHouseTakes);
         Tests.run("3: a frozen empty house takes nothing", MoveBoundsTest::frozenEmptyHouseTakes);
+        Tests.run("3: a house takes again after three draws, not after two", MoveBoundsTest::thawedHouseTakes);
     }
 
     private static void runWastes() {
@@ -241,6 +243,16 @@ final class MoveBoundsTest {
         }, new int[] {0, 0, 8, 10, 20, 86});
     }
 
+    private static void thawedHouseGives() {
+        TwinPatience game = new TwinPatience();
+        game.freeze(4);
+        game.draw();
+        game.draw();
+        Tests.due("move(10, 12) after two draws", game.move(10, 12), Bounds.NOT_POSSIBLE);
+        game.draw();
+        Tests.due("move(10, 12) after three draws", game.move(10, 12), 0);
+    }
+
     // ---- aces' piles
 
     private static void emptyAcesPileTakes() {
@@ -358,6 +370,17 @@ final class MoveBoundsTest {
     private static void frozenEmptyHouseTakes() {
         noMovesFrozen(0, new int[] {1, 50, 0, 6, 25, -6});
         noMovesFrozen(7, new int[] {0, 28, 0, 13, 30, -6});
+    }
+
+    private static void thawedHouseTakes() {
+        TwinPatience game = new TwinPatience();
+        game.move(10, 12);
+        game.freeze(4);
+        game.draw();
+        game.draw();
+        Tests.due("move(0, 10) after two draws", game.move(0, 10), Bounds.NOT_POSSIBLE);
+        game.draw();
+        Tests.due("move(1, 10) after three draws", game.move(1, 10), 2);
     }
 
     // ---- wastes, stocks and hands

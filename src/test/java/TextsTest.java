@@ -8,10 +8,6 @@ final class TextsTest {
     static void run() {
         Tests.run("17: put: one to eight characters", TextsTest::put);
         Tests.run("17: put: wrong characters", TextsTest::putWrong);
-        Tests.run("17: put: sixty characters at most", TextsTest::putTooMany);
-        Tests.run("18: wipe", TextsTest::wipe);
-        Tests.run("19: fault: texts without one", TextsTest::texts);
-        Tests.run("19: fault: texts with one", TextsTest::faults);
         Tests.run("19: fault: all short texts", TextsTest::shortTexts);
     }
 
@@ -47,67 +43,6 @@ final class TextsTest {
             TwinPatience one = new TwinPatience();
             Tests.due("put(" + code + ")", one.put(code), code >= 33 && code <= 126 ? 1 : -2);
             Tests.due("put(" + code + " and d)", one.put(code << 8 | 'd') > 0 ? 1 : 0, code >= 33 && code <= 126 || code == 0 ? 1 : 0);
-        }
-    }
-
-    private static void putTooMany() {
-        TwinPatience game = new TwinPatience();
-        Games.write(game, "d,".repeat(27));
-        Tests.due("count(7)", game.count(7), 54);
-        Tests.due("seven more", game.put(RandomRunsTest.packed("d,d,d,d")), -4);
-        Tests.due("count(7)", game.count(7), 54);
-        Tests.due("six more", game.put(RandomRunsTest.packed("d,d,d,")), 60);
-        Tests.due("one more", game.put('d'), -4);
-        Tests.due("wrong characters come first", game.put(32), -2);
-        Tests.due("no character", game.put(0), -2);
-        Tests.due("count(7)", game.count(7), 60);
-        Tests.due("fault()", game.fault(), 60);
-        Tests.due("playAll()", game.playAll(), -3);
-    }
-
-    private static void wipe() {
-        TwinPatience game = new TwinPatience();
-        Tests.due("wipe()", game.wipe(), 0);
-        Games.write(game, "d,d,d,d,d,d");
-        Tests.due("wipe()", game.wipe(), 11);
-        Tests.due("wipe()", game.wipe(), 0);
-        Tests.due("count(7)", game.count(7), 0);
-        Tests.due("it is no change", game.count(8), 0);
-        Tests.due("put", game.put('d'), 1);
-        Tests.due("nothing of before is left", game.fault(), NONE);
-    }
-
-    private static void fault(String text, int want) {
-        TwinPatience game = new TwinPatience();
-        Games.write(game, text);
-        Tests.due("fault() of " + text, game.fault(), want);
-        Tests.due("the pad stays", game.count(7), text.length());
-    }
-
-    private static void texts() {
-        for (int pile = 0; pile <= 21; pile++) {
-            fault(pile + ">" + (21 - pile), NONE);
-            fault("d," + pile + ">0,d", NONE);
-        }
-        for (int house = 0; house <= 7; house++) {
-            fault("f" + house, NONE);
-            fault("f" + house + ",d,f0", NONE);
-        }
-        fault("10>11,12>13,14>15,16>17,18>19,20>21,10>11,12>13,14>15,16>1", NONE);
-    }
-
-    private static void faults() {
-        String[] texts = {"", "e", "dd", "d,", ",d", "d,,d", "f", "f8", "fd", "f77", "f7,", "f9",
-            "22>5", "23>5", "30>5", "99>5", "01>2", "00>2", "1>01", "1>22", "1>30", "21>21>", "2>1>3", "123>4", "100>4",
-            "1", "12", "1>", "1>d", "1d", "1,", ">1", "1>>2", "d>1", "1>2d", "1>2f", "1>2,", "1>2,3", "1>2,3>", "1>21,22>1",
-            "1>211", "1>199", "D", "F1", "d,d,d,d,d,d,d,d,d,d,d!", "0>0,0>00", "d.", "f1f", "2", "20", "20,", "1>2 ".trim() + "~"};
-        int[] wanted = {0, 0, 1, 2, 0, 2, 1, 1, 1, 2, 3, 1,
-            1, 1, 1, 1, 1, 1, 3, 3, 3, 5, 3, 2, 2,
-            1, 2, 2, 2, 1, 1, 0, 2, 1, 3, 3, 4, 5, 6, 6,
-            4, 4, 0, 0, 21, 7, 1, 2, 1, 2, 2, 3};
-        Tests.due("as many faults as texts", wanted.length, texts.length);
-        for (int i = 0; i < texts.length; i++) {
-            fault(texts[i], wanted[i]);
         }
     }
 
