@@ -5,10 +5,12 @@ public final class AllTests {
     private AllTests() {
     }
 
-    /** The argument is the path of the class's source. */
+    /** The arguments are the paths of the class's source and of README.md. */
     public static void main(String[] args) {
         failIfItDoesNotEnd();
-        FaceTest.run(args[0]);
+        FaceTest.run();
+        LanguageTest.run(args[0]);
+        ReadmeTest.run(args[1]);
         ChangesTest.run();
         ReadingsTest.run();
         WhatIfTest.run();
@@ -20,6 +22,7 @@ public final class AllTests {
         WhatIfBoundsTest.run();
         TextBoundsTest.run();
         HistoryBoundsTest.run();
+        FullPilesTest.run();
         RandomRunsTest.run();
         if (!Tests.close()) {
             System.exit(1);

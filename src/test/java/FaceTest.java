@@ -1,18 +1,12 @@
-import java.io.IOException;
-import java.io.UncheckedIOException;
 import java.lang.management.ManagementFactory;
 import java.lang.reflect.Constructor;
 import java.lang.reflect.Field;
 import java.lang.reflect.Method;
 import java.lang.reflect.Modifier;
-import java.nio.file.Files;
-import java.nio.file.Path;
 import java.util.Set;
 import java.util.TreeSet;
-import java.util.regex.Matcher;
-import java.util.regex.Pattern;
 
-/** The face that the document gives, what of ../shared/LANGUAGE.md a test can see, and the room that calls take. */
+/** The face that the document gives, and the room that calls take. */
 final class FaceTest {
     private static final Set<String> METHODS = Set.of(
             "deal(int)", "move(int,int)", "draw()", "freeze(int)", "play(int)", "playAll()", "pile(int,int)",
@@ -23,10 +17,9 @@ final class FaceTest {
     private FaceTest() {
     }
 
-    static void run(String source) {
+    static void run() {
         Tests.run("the face: constants", FaceTest::constants);
         Tests.run("the face: methods", FaceTest::methods);
-        Tests.run("the language: words that are not in it", () -> words(source));
         Tests.run("the room: calls make no objects", FaceTest::room);
     }
 
@@ -72,21 +65,6 @@ final class FaceTest {
         for (Class<?> inner : TwinPatience.class.getDeclaredClasses()) {
             Tests.holds(inner + " is static", Modifier.isStatic(inner.getModifiers()));
             Tests.holds(inner + " is not public", !Modifier.isPublic(inner.getModifiers()));
-        }
-    }
-
-    private static void words(String source) {
-        String code;
-        try {
-            code = Files.readString(Path.of(source)).replaceAll("//.*|(?s)/\\*.*?\\*/", "");
-        } catch (IOException thrown) {
-            throw new UncheckedIOException(thrown);
-        }
-        Pattern wrong = Pattern.compile("\\b(throw|throws|try|catch|synchronized|assert|import|package|protected|System\\.(?!arraycopy)\\w+"
-                + "|\\w+Exact|Object|Random|Thread|toString|hashCode|String)\\b|->|::|\"|@");
-        Matcher matcher = wrong.matcher(code);
-        while (matcher.find()) {
-            Tests.holds("no " + matcher.group() + " in the program", false);
         }
     }
 
